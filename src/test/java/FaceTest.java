@@ -34,6 +34,9 @@ public final class FaceTest {
         }
         check.same("the face", seen, DUE);
         check.same("the class", Modifier.toString(ShortForms.class.getModifiers()), "public final");
+        // A class above it or an interface would add members to the face.
+        check.same("the class above", ShortForms.class.getSuperclass(), Object.class);
+        check.same("its interfaces", ShortForms.class.getInterfaces().length, 0);
         check.same("NONE", ShortForms.NONE, -1);
         check.end();
     }
